@@ -1920,7 +1920,7 @@ public final class HeightFine {
             Arrays.fill(viewed, 0);
             viewed[0] = 1;
             int taller = 0;
-            while (taller < of.people) {
+            for (int group = 0; group < MOST_PEOPLE && taller < of.people; group++) {
                 int like = likeOnes(of.people - taller - 1);
                 int others = FACTORIAL[taller + like - 1] / FACTORIAL[taller];
                 for (int seen = MOST_PEOPLE; seen >= 0; seen--) {

@@ -77,6 +77,13 @@ public final class BoroughTest {
         check.due("no BOROUGH", x.cut(1, 0, 0), NONE);
         check.due("no BOROUGH", x.cut(-1, 0, 0), NONE);
         cutIs(Check.withBorough("person 9;"), 50, 0);
+        HeightFine eight = Check.withBorough("person 2;person 3;person 4;person 5;person 6;person 7;person 8;person 9;"
+                + "door 1;door 1;" + "pass 0 0;pass 1 0;pass 2 0;pass 3 0;pass 4 0;pass 5 0;pass 6 0;pass 7 0;pass 0 1;");
+        cutIs(eight, 0, 0, 0, 0);
+        cutIs(eight, 7, 7, 6, 1);
+        cutIs(eight, 8, 8, 7, 1);
+        cutIs(eight, 9, 9, 8, 1);
+        cutIs(eight, 99, 9, 8, 1);
         cutIs(Check.withBorough("person 9;door 8;door 8;pass 0 0;pass 0 1;"), 1, 1, 0, 1);
         cutIs(Check.withBorough("person 9;door 8;door 99;"), 1, 0, 0, 0);
         cutIs(Check.withBorough("person 9;person 9;person 7;door 6;door 6;pass 0 0;pass 1 0;pass 2 1;"), 3, 2, 3, 0);
@@ -158,6 +165,14 @@ public final class BoroughTest {
         check.due("always caught: 1 inch", always.dares(0, 1, 1, 0), 3);
         check.due("always caught: best", always.dares(0, 1, 1, 4), 3);
         check.due("always caught: deters", always.dares(0, 1, 1, 3), 4);
+        HeightFine insults = Check.withBorough("person 1;person 1;caught 10;wish 0 insult 9;wish 1 insult 30;wish 0 lie 50;");
+        check.due("another OFFENCE: harm", insults.dares(0, 3, 1, 1), 39);
+        check.due("another OFFENCE: harm", insults.dares(0, 3, 9, 1), 30);
+        check.due("another OFFENCE: best", insults.dares(0, 3, 1, 4), 8);
+        check.due("another OFFENCE: deters", insults.dares(0, 3, 1, 3), NONE);
+        HeightFine nine = Check.withBorough("person 1;caught 10;wish 0 lie 9;wish 0 theft 10;");
+        check.due("9 deters", nine.dares(0, 1, 1, 3), 9);
+        check.due("9 is best", nine.dares(0, 0, 1, 4), 9);
         HeightFine several = Check.withBorough("person 1;person 1;caught 10;wish 0 lie 3;wish 1 lie 2;");
         check.due("of several the least", several.dares(0, 1, 1, 4), 1);
     }

@@ -22,7 +22,7 @@ public final class BruteTest {
     public static void main(String[] args) {
         for (int round = 0; round < 400; round++) {
             int most = 2 + random.nextInt(12);
-            people(random.nextInt(6), most);
+            people(random.nextInt(6), random.nextInt(5), most);
             HeightFine x = Check.withBorough(text);
             int n = random.nextInt(12);
             reached(x, n);
@@ -41,16 +41,26 @@ public final class BruteTest {
             year(x);
             ledger();
         }
+        for (int round = 0; round < 12; round++) {
+            people(8, 6, 3 + 8 * round);
+            HeightFine x = Check.withBorough(text);
+            reached(x, random.nextInt(60));
+            love(x, random.nextInt(20));
+            views(x);
+            sets(x);
+            kin(x);
+            year(x);
+        }
         check.finish();
     }
 
-    private static void people(int many, int most) {
+    private static void people(int many, int works, int most) {
         StringBuilder s = new StringBuilder();
         tall = new int[many];
         parent = new int[many];
         poor = new boolean[many];
         fine = new int[] {6, 3, 1, 2};
-        reach = new int[random.nextInt(5)];
+        reach = new int[works];
         top = new int[random.nextInt(4)];
         pass = new boolean[top.length][many];
         for (int p = 0; p < many; p++) {
@@ -434,7 +444,7 @@ public final class BruteTest {
         StringBuilder s = new StringBuilder();
         int[][] deed = new int[deeds][];
         for (int k = 0; k < deeds; k++) {
-            int p = random.nextInt(Math.max(1, tall.length) + (random.nextInt(20) == 0 ? 1 : 0));
+            int p = Math.min(7, random.nextInt(Math.max(1, tall.length) + (random.nextInt(20) == 0 ? 1 : 0)));
             int q = (p + 1 + random.nextInt(7)) % 8;
             q = random.nextInt(4) > 0 && tall.length > 1 ? (p + 1) % tall.length : q;
             q = q == p ? p + 1 & 7 : q;
