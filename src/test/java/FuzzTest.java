@@ -25,7 +25,39 @@ public final class FuzzTest {
             most = Math.max(most, bytesOf(run) - empty);
         }
         check.due("a run's calls make few bytes: " + most, most <= MOST_BYTES, true);
+        for (int run = 0; run < 30; run++) {
+            usedAgain(run);
+        }
         check.finish();
+    }
+
+    /** A call answers the same on an object that has answered others as on a new one. */
+    private static void usedAgain(int run) {
+        random = new Random(run);
+        HeightFine used = filled(run);
+        for (int k = 0; k < 250; k++) {
+            int which = 4 + random.nextInt(22);
+            int[] a = {random.nextInt(2), random.nextInt(2), random.nextInt(4), random.nextInt(4), random.nextInt(3)};
+            a[1] = random.nextBoolean() ? any() : a[1];
+            a[2] = random.nextBoolean() ? any() : a[2];
+            check.due("call " + which + " of run " + run, call(used, which, a), call(filled(run), which, a));
+        }
+    }
+
+    private static HeightFine filled(int run) {
+        String small = "person 7;person 5;person 5;child 0 1;poor 2;door 3;pass 0 0;pass 1 0;work 9;work 4;wish 0 lie 9;";
+        String great = "person 9;person 30;person 12;person 90;person 4;person 4;person 8;person 6;child 3 2;child 2 1;"
+                + "poor 3;poor 4;door 5;door 9;door 1;pass 0 0;pass 1 2;pass 3 2;pass 4 1;pass 5 0;"
+                + "work 9;work 31;work 5;work 14;work 2;work 99;wish 7 lie 3;";
+        HeightFine x = new HeightFine();
+        for (int k = 0; k < 2; k++) {
+            boolean first = (run + k) % 2 == 0;
+            Check.tell(x, 0, HeightFine.NONE, first ? small : great);
+            Check.tell(x, 1, HeightFine.NONE, first ? "fine 1 speed;gift 0 2 1;" : "fine 1 theft;give 2 1;gift 1 0 3;fine 0 lie;");
+            Check.tell(x, 2, HeightFine.NONE, first ? Check.LEDGER : "owed 5;got 1 2;got 7 3;got 4 5;");
+            Check.tell(x, 3, HeightFine.NONE, first ? "" : "tall 1 5;");
+        }
+        return x;
     }
 
     private static long allocated() {
