@@ -133,14 +133,16 @@ public final class HeightFine {
     }
 
     public int text(int sort, int at) {
+        // The tape is taken whatever comes of it, even where there is no place for a text.
+        int size = told.length;
+        told.length = 0;
         told.fault = 0;
         told.place = NONE;
         int number = told.placeFor(sort, at);
         if (number == NONE) {
             return NO_SUCH;
         }
-        reader.read(sort, told.tape, told.length);
-        told.length = 0;
+        reader.read(sort, told.tape, size);
         told.fault = reader.fault;
         told.place = reader.place;
         if (reader.fault != 0) {

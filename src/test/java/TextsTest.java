@@ -7,6 +7,7 @@ public final class TextsTest {
         aNewObject();
         theTape();
         takingTheTape();
+        theTapeWhenNoTextCanCome();
         placesOfTexts();
         syntaxFaults();
         numberFaults();
@@ -71,11 +72,7 @@ public final class TextsTest {
         check.due("GOT", x.ledger(0, 10), 3);
         check.due("the tape is empty", x.end(1), NONE);
 
-        Check.feed(x, "owed 5;");
-        check.due("no such sort", x.text(4, NONE), -2);
-        check.due("its FAULT", x.fault(0), 0);
-        check.due("the tape stays", x.end(7), 7);
-        check.due("text", x.text(2, NONE), 1);
+        check.due("a second one", Check.tell(x, 2, NONE, "owed 5;"), 1);
         check.due("OWED", x.ledger(1, 0), 5);
 
         check.due("a wrong text", Check.tell(x, 2, 0, "owed"), NONE);
@@ -86,6 +83,30 @@ public final class TextsTest {
         check.due("-2", x.text(2, NONE), -2);
         check.due("FAULT behind -2", x.fault(0), 0);
         check.due("place behind -2", x.fault(1), NONE);
+    }
+
+    /** Each way to the answer -2, the tape being empty behind it, and nothing being read of it. */
+    private static void theTapeWhenNoTextCanCome() {
+        int[] sort = {4, -1, Integer.MAX_VALUE, 2, 2, 2, 2, 3, 0, 1};
+        int[] at = {NONE, 0, NONE, NONE, 2, -2, Integer.MIN_VALUE, 0, 0, 1};
+        for (int k = 0; k < sort.length; k++) {
+            String call = "text(" + sort[k] + ", " + at[k] + ") ";
+            HeightFine x = new HeightFine();
+            Check.tell(x, 2, NONE, "owed 1;");
+            Check.tell(x, 2, NONE, "owed 2;");
+            check.due("a wrong text", Check.tell(x, 2, 0, "owed"), NONE);
+            check.due(call, Check.tell(x, sort[k], at[k], "owed 5;"), -2);
+            check.due(call + "FAULT", x.fault(0), 0);
+            check.due(call + "place", x.fault(1), NONE);
+            check.due(call + "end(1)", x.end(1), NONE);
+            check.due(call + "feed", x.feed(0, 0, 0, 0, 0), 20);
+            check.due(call + "end(0)", x.end(0), 0);
+            check.due(call + "count", x.count(2), 2);
+            check.due(call + "OWED", x.ledger(0, 0), 1);
+            check.due(call + "OWED", x.ledger(1, 0), 2);
+            check.due(call + "a text of nothing", x.text(2, 0), 0);
+            check.due(call + "OWED", x.ledger(0, 0), 0);
+        }
     }
 
     private static void placesOfTexts() {
