@@ -16,6 +16,7 @@ public final class BoroughEdgesTest {
     public static void main(String[] args) {
         reachedJust();
         reachedOfNothing();
+        reachedByFewestInches();
         reachedByAll();
         reachedFirstByNumbers();
         reachedOfWhat();
@@ -46,7 +47,8 @@ public final class BoroughEdgesTest {
         assumedNoneSoLow();
         assumedWisest();
         assumedOfWhat();
-        asToldAlone();
+        asToldWorksAndDoors();
+        asToldPeople();
         check.finish();
     }
 
@@ -111,6 +113,18 @@ public final class BoroughEdgesTest {
         reachedIs(Check.times(8, "person 1;") + "work 2;", 0, 0, 0, 8);
     }
 
+    private static void reachedByFewestInches() {
+        check.sentence("Terms", "the fewest inches for so many");
+        reachedIs("person 5;person 7;work 8;", 0, 0, 0, 8);
+        reachedIs("person 5;person 7;work 8;", 1, 1, 1, 1);
+        reachedIs("person 5;person 7;work 8;", 3, 1, 1, 1);
+        reachedIs("person 5;person 7;work 8;", 99, 1, 1, 1);
+        reachedIs("person 5;person 7;work 8;work 6;", 1, 1, 0, 8, 1);
+        reachedIs("person 5;person 7;work 8;work 6;", 2, 2, 2, 1, 0);
+        reachedIs("person 5;person 7;work 99;work 99;", 99, 1, 92, 1, 8);
+        reachedIs(Check.times(8, "person 93;") + Check.times(6, "work 99;"), 99, 6, 36, 0, 1, 2, 3, 4, 5);
+    }
+
     private static void reachedByAll() {
         check.sentence("Terms", "then, each by another one");
         String six = Check.times(6, "work 10;");
@@ -132,7 +146,7 @@ public final class BoroughEdgesTest {
     }
 
     private static void reachedOfWhat() {
-        check.sentence("Promise 10", "NONE: there is none such (of any), another n, or for another what.");
+        check.sentence("Promise 10", "REACHED of n, what 0: how many, 1: the fewest inches, 10 + w: who does a WORK. NONE: there is none such (of any), another n, or for another what.");
         for (int works = 0; works <= 6; works++) {
             HeightFine x = with("person 9;" + Check.times(works, "work 9;"));
             for (int what = -20; what <= 30; what++) {
@@ -204,7 +218,7 @@ public final class BoroughEdgesTest {
     }
 
     private static void cutOfWhat() {
-        check.sentence("Promise 11", "NONE: there is none such (of any), another n, or for another what.");
+        check.sentence("Promise 11", "CUT of n, 0 .. 99, what 0: how many couples, 10 + d: the raise of a DOOR. NONE: there is none such (of any), another n, or for another what.");
         for (int doors = 0; doors <= 6; doors++) {
             HeightFine x = with("person 9;" + Check.times(doors, "door 8;"));
             for (int what = -20; what <= 30; what++) {
@@ -302,7 +316,8 @@ public final class BoroughEdgesTest {
     }
 
     private static void daresJust() {
-        check.sentence("Terms", "a PERSON DARES it, if 10 times his WISH is above f times CAUGHT");
+        check.sentence("Terms", "Of an OFFENCE, a FINE, f: a PERSON DARES it, if 10 times his WISH is above f times CAUGHT: DARES: who"
+                + " (bits)");
         for (int caught = 0; caught <= 10; caught++) {
             for (int f = 1; f <= 9; f++) {
                 for (int wish : new int[] {f * caught / 10, f * caught / 10 + 1}) {
@@ -319,12 +334,11 @@ public final class BoroughEdgesTest {
     }
 
     private static void daresAtTheEnds() {
-        check.sentence("Terms", "HARM of f: sum of WISHES of those who DARE it; TAKEN: f times CAUGHT times how many DARE");
-        String[] offences = {"theft", "lie", "speed", "insult"};
+        check.sentence("Terms", "HARM of f: sum of WISHES of those who DARE it; TAKEN: f times CAUGHT times how many DARE (tenths of inches).");
         for (int o = 0; o < 4; o++) {
             StringBuilder all = new StringBuilder(Check.times(8, "person 1;") + "caught 10;");
             for (int p = 0; p < 8; p++) {
-                all.append("wish ").append(p).append(' ').append(offences[o]).append(" 99;");
+                all.append("wish ").append(p).append(' ').append(Lines.OFFENCES[o]).append(" 99;");
             }
             daresIs(all.toString(), o, 9, 255, 792, 720);
             daresIs(all.toString(), o, 1, 255, 792, 80);
@@ -346,6 +360,12 @@ public final class BoroughEdgesTest {
     }
 
     private static void detersAndBest() {
+        check.sentence("Terms", "DETERS: the least FINE, 1 to 9, by which nobody does");
+        for (int wish = 0; wish <= 12; wish++) {
+            int deters = wish == 0 ? 1 : wish <= 9 ? wish : NONE;
+            check.due("DETERS, always caught, a WISH of " + wish, with("person 1;caught 10;wish 0 lie " + wish + ";")
+                    .dares(0, 1, 1, 3), deters);
+        }
         check.sentence("Promise 13", "3: DETERS (NONE: none), 4: BEST (3, 4: whatever f is).");
         detersIs("", 1, 1);
         detersIs("person 1;", 1, 1);
@@ -365,6 +385,14 @@ public final class BoroughEdgesTest {
     }
 
     private static void daresOfWhat() {
+        check.sentence("Promise 13", "Of an OFFENCE, a FINE f, 1 .. 9, what 0: DARES (bits), 1: HARM, 2: TAKEN");
+        HeightFine ends = with("person 1;person 1;caught 10;wish 1 lie 99;");
+        for (int f = 0; f <= 10; f++) {
+            boolean is = f >= 1 && f <= 9;
+            check.due("DARES, f " + f, ends.dares(0, 1, f, 0), is ? 2 : NO_SUCH);
+            check.due("HARM, f " + f, ends.dares(0, 1, f, 1), is ? 99 : NO_SUCH);
+            check.due("TAKEN, f " + f, ends.dares(0, 1, f, 2), is ? 10 * f : NO_SUCH);
+        }
         check.sentence("Promise 13", "-2: there is none such (of either), another f, or for another what.");
         HeightFine x = with("person 1;caught 10;wish 0 lie 9;");
         for (int what = 0; what <= 4; what++) {
@@ -419,7 +447,8 @@ public final class BoroughEdgesTest {
     }
 
     private static void shareOfAChain() {
-        check.sentence("Terms", "the rest comes to the PARENT, and so on; of one who has none it is lost");
+        check.sentence("Terms", "the rest comes to the PARENT, and so on; of one who has none it is lost: of each how much; how much is"
+                + " lost.");
         String eight = Check.times(8, "person 99;") + CHAIN;
         shareIs(eight, 7, 99, 0, 1, 1, 2, 3, 6, 12, 25, 49);
         shareIs(eight, 7, 1, 0, 1, 0, 0, 0, 0, 0, 0, 0);
@@ -430,7 +459,8 @@ public final class BoroughEdgesTest {
     }
 
     private static void shareOfWhat() {
-        check.sentence("Promise 14", "NONE: there is none such (of any), or another n.");
+        check.sentence("Promise 14", "SHARE of a PERSON's fine of n: what another one (or he) loses (who NONE: what is lost). NONE: there"
+                + " is none such (of any), or another n.");
         for (int people = 0; people <= 8; people++) {
             HeightFine x = with(Check.times(people, "person 9;"));
             check.dueToEach("PERSON of " + people, p -> x.share(0, p, 5, NONE), NONE, LEAST, -2, -1, people, 8, GREATEST);
@@ -440,6 +470,7 @@ public final class BoroughEdgesTest {
                 check.due("another one than the last", x.share(0, people - 1, 5, 0), people == 1 ? 5 : 0);
             }
         }
+        check.sentence("Terms", "SHARE of a PERSON's fine of n, 1 .. 99");
         HeightFine x = with("person 9;person 9;");
         check.dueToEach("n", n -> x.share(0, 0, n, 0), NONE, LEAST, -1, 0, 100, 101, GREATEST);
         check.dueToEach("n, lost", n -> x.share(0, 0, n, NONE), NONE, LEAST, -1, 0, 100, 101, GREATEST);
@@ -450,7 +481,7 @@ public final class BoroughEdgesTest {
     }
 
     private static void elderOfTwo() {
-        check.sentence("Terms", "the nearest forbear of both (one may be the other's, or be it himself; of whom steps up from both"
+        check.sentence("Terms", "ELDER of two PEOPLE: the nearest forbear of both (one may be the other's, or be it himself; of whom steps up from both"
                 + " together are fewest)");
         HeightFine chain = with(Check.times(8, "person 9;") + CHAIN);
         for (int a = 0; a < 8; a++) {
@@ -468,7 +499,7 @@ public final class BoroughEdgesTest {
     }
 
     private static void elderOfNone() {
-        check.sentence("Promise 15", "NONE: there is none, or none such (of any).");
+        check.sentence("Promise 15", "ELDER of two PEOPLE. NONE: there is none, or none such (of any).");
         for (int people = 0; people <= 8; people++) {
             HeightFine x = with(Check.times(people, "person 9;"));
             check.dueToEach("a of " + people, a -> x.elder(0, a, 0), NONE, LEAST, -2, -1, people, 8, GREATEST);
@@ -506,7 +537,7 @@ public final class BoroughEdgesTest {
     }
 
     private static void familyOfWhat() {
-        check.sentence("Promise 21", "NONE: there is none such (of either), or for another what.");
+        check.sentence("Promise 21", "FAMILY of a PERSON, what 0: who (bits), 1: INCHES, 2: steps. NONE: there is none such (of either), or for another what.");
         for (int people = 0; people <= 8; people++) {
             HeightFine x = with(Check.times(people, "person 9;"));
             for (int what = 0; what < 3; what++) {
@@ -532,6 +563,8 @@ public final class BoroughEdgesTest {
         check.sentence("Promise 22", "VIEWS of k, any number. NONE: there is none such.");
         viewsAre("", 1);
         viewsAre("person 9;", 0, 1);
+        check.sentence("Terms", "VIEWS of k: in how many orders of all PEOPLE, one behind the other, just k are taller than everybody"
+                + " ahead (the first one is).");
         viewsAre("person 9;person 9;", 0, 2);
         viewsAre("person 9;person 10;", 0, 1, 1);
         viewsAre(Check.times(8, "person 9;"), 0, 40320);
@@ -539,6 +572,7 @@ public final class BoroughEdgesTest {
                 0, 5040, 13068, 13132, 6769, 1960, 322, 28, 1);
         viewsAre(Check.times(7, "person 1;") + "person 2;", 0, 5040, 35280);
         viewsAre(Check.times(7, "person 2;") + "person 1;", 0, 35280, 5040);
+        check.sentence("Promise 22", "NONE: there is none such.");
         HeightFine x = new HeightFine();
         noSuchBorough(NONE, x, b -> x.views(b, 0));
         HeightFine y = new HeightFine();
@@ -591,6 +625,8 @@ public final class BoroughEdgesTest {
         hatsAre("", 0, 0);
         hatsAre("person 1;", 0, 1);
         hatsAre("person 99;", 0, 99);
+        check.sentence("Terms", "HATS: the fewest inches of hats by which no two PEOPLE are of like height, hat and all; the highest"
+                + " then.");
         hatsAre("person 99;person 98;", 0, 99);
         hatsAre("person 99;person 99;", 1, 100);
         hatsAre("person 98;person 99;person 98;", 2, 100);
@@ -685,7 +721,8 @@ public final class BoroughEdgesTest {
     }
 
     private static void assumedOfWhat() {
-        check.sentence("Promise 26", "NONE: there is none such, another h, or for another what.");
+        check.sentence("Promise 26", "ASSUMED of h, what 0: of how many it is wrong, 1, 2: the part, N, D, 3: WISEST (whatever h is). NONE:"
+                + " there is none such, another h, or for another what.");
         HeightFine x = with("person 5;poor 0;");
         for (int what = 0; what < 3; what++) {
             int asked = what;
@@ -702,13 +739,18 @@ public final class BoroughEdgesTest {
         }
     }
 
-    /** A YEAR's way, or another BOROUGH asked of before, leaves what follows from this one as it is. */
-    private static void asToldAlone() {
-        check.sentence("Terms", "(Of a BOROUGH as told.) FAMILY of a PERSON");
+    /** Two BOROUGHS and a YEAR, of which each is asked of between two answers of the other. */
+    private static HeightFine withTwo() {
         HeightFine x = with(Check.BOROUGH);
         Check.tell(x, 1, NONE, Check.YEAR);
         Check.tell(x, 0, NONE, Check.times(8, "person 99;") + Check.times(6, "door 98;work 99;")
                 + "pass 0 0;pass 1 0;pass 2 1;pass 3 2;pass 4 3;pass 5 4;pass 6 5;poor 0;");
+        return x;
+    }
+
+    private static void asToldWorksAndDoors() {
+        check.sentence("Terms", "(Of a BOROUGH as told.) REACHED of n");
+        HeightFine x = withTwo();
         for (int round = 0; round < 2; round++) {
             check.due("reached", x.reached(0, 8, 12), 0);
             check.due("reached, inches", x.reached(0, 8, 1), 8);
@@ -716,22 +758,34 @@ public final class BoroughEdgesTest {
             check.due("cut, DOOR 0", x.cut(0, 9, 10), 5);
             check.due("love", x.love(0, 5, false), 2);
             check.due("even", x.love(0, 2, true), 9);
+            check.due("dares", x.dares(0, 0, 1, 0), 11);
             check.due("share", x.share(0, 3, 99, NONE), 74);
+            check.due("a STATE", x.state(0, 0, 9, 12), 14);
+            check.due("the other: reached", x.reached(1, 99, 10), 0);
+            check.due("the other: cut", x.cut(1, 99, 0), 7);
+            check.due("the other: love", x.love(1, 0, false), 4);
+            check.due("the other: even", x.love(1, 99, true), 0);
+            check.due("the other: share", x.share(1, 7, 99, NONE), 1);
+        }
+    }
+
+    private static void asToldPeople() {
+        check.sentence("Terms", "(Of a BOROUGH as told.) FAMILY of a PERSON");
+        HeightFine x = withTwo();
+        for (int round = 0; round < 2; round++) {
             check.due("family", x.family(0, 1, 1), 48);
             check.due("views", x.views(0, 2), 11);
             check.due("shoulders", x.shoulders(0, 36), 7);
             check.due("hats", x.hats(0, true), 20);
             check.due("teams", x.teams(0, true), 9);
             check.due("assumed", x.assumed(0, 4, 0), 1);
-            check.due("a STATE", x.state(0, 0, 9, 10), 20);
-            check.due("the other: reached", x.reached(1, 99, 10), 0);
-            check.due("the other: cut", x.cut(1, 99, 0), 7);
-            check.due("the other: even", x.love(1, 99, true), 0);
+            check.due("a STATE", x.state(0, 0, 9, 12), 14);
+            check.due("the other: family", x.family(1, 7, 1), 99);
             check.due("the other: views", x.views(1, 1), 40320);
             check.due("the other: shoulders", x.shoulders(1, 400), 31);
-            check.due("the other: teams", x.teams(1, true), 15);
             check.due("the other: hats", x.hats(1, true), 106);
-            check.due("the other: drawn", x.drawn(1, 1, 0, 0), 0);
+            check.due("the other: teams", x.teams(1, true), 15);
+            check.due("the other: assumed", x.assumed(1, 99, 0), 7);
         }
     }
 }

@@ -8,7 +8,7 @@ public final class BruteTest {
     private static final int NONE = HeightFine.NONE;
     private static final Check check = new Check();
     private static final Random random = new Random(20261118);
-    private static final String[] OFFENCE = {"theft", "lie", "speed", "insult"};
+    private static final String[] OFFENCE = Lines.OFFENCES;
 
     private static int[] tall;
     private static int[] parent;
@@ -30,15 +30,17 @@ public final class BruteTest {
             love(x, n);
             views(x);
             hats(x);
-            sets(x);
-            kin(x);
+            teams(x);
+            shoulders();
+            assumed();
+            kin(Check.withBorough(text));
             if (tall.length <= 4) {
                 even(x, random.nextInt(4));
             }
             if (tall.length <= 3) {
                 rows(x);
             }
-            year(x);
+            year();
             ledger();
         }
         for (int round = 0; round < 12; round++) {
@@ -47,9 +49,11 @@ public final class BruteTest {
             reached(x, random.nextInt(60));
             love(x, random.nextInt(20));
             views(x);
-            sets(x);
-            kin(x);
-            year(x);
+            teams(x);
+            shoulders();
+            assumed();
+            kin(Check.withBorough(text));
+            year();
         }
         check.finish();
     }
@@ -294,12 +298,17 @@ public final class BruteTest {
         return NONE;
     }
 
-    private static void sets(HeightFine x) {
-        int many = tall.length;
+    private static void shoulders() {
+        HeightFine x = Check.withBorough(text);
         int all = sumOf(tall, 255);
-        for (int n = -1; n <= all + 1; n += 1 + random.nextInt(3)) {
+        for (int n = -1; n <= all + 1; n += 1 + random.nextInt(5)) {
             check.due("shoulders of " + n + " in " + text, x.shoulders(0, n), fewest(tall, n));
         }
+    }
+
+    private static void teams(HeightFine x) {
+        int many = tall.length;
+        int all = sumOf(tall, 255);
         int difference = NONE;
         int team = NONE;
         for (int set = 0; set < 1 << many && many > 1; set++) {
@@ -312,13 +321,17 @@ public final class BruteTest {
         }
         check.due("teams in " + text, x.teams(0, false), difference);
         check.due("team in " + text, x.teams(0, true), team);
+    }
+
+    private static void assumed() {
+        HeightFine x = Check.withBorough(text);
         int wisest = 0;
         int fewestWrong = 9;
         for (int h = 0; h <= 99; h++) {
             int wrong = 0;
             int low = 0;
             int lowPoor = 0;
-            for (int p = 0; p < many; p++) {
+            for (int p = 0; p < tall.length; p++) {
                 wrong += tall[p] <= h && !poor[p] || tall[p] > h && poor[p] ? 1 : 0;
                 low += tall[p] <= h ? 1 : 0;
                 lowPoor += tall[p] <= h && poor[p] ? 1 : 0;
@@ -439,7 +452,7 @@ public final class BruteTest {
         return ways;
     }
 
-    private static void year(HeightFine x) {
+    private static void year() {
         int deeds = random.nextInt(30);
         StringBuilder s = new StringBuilder();
         int[][] deed = new int[deeds][];
@@ -461,14 +474,14 @@ public final class BruteTest {
             }
             s.append(';');
         }
-        check.due("a YEAR", Check.tell(x, 1, NONE, s.toString()), 0);
         int[] now = Arrays.copyOf(tall, tall.length + 1);
         int done = 0;
-        state(x, s.toString(), now, 0);
+        state(s.toString(), now, 0);
         while (done < deeds && possible(now, deed[done])) {
             done++;
-            state(x, s.toString(), now, done);
+            state(s.toString(), now, done);
         }
+        HeightFine x = withYear(s.toString());
         check.due("stop of " + s + " in " + text, x.stop(0, 0), done);
         check.due("no STATE behind stop", x.state(0, 0, done + 1, 0), -2);
     }
@@ -526,7 +539,15 @@ public final class BruteTest {
         return true;
     }
 
-    private static void state(HeightFine x, String s, int[] now, int n) {
+    /** A new object each time, as one is good for 512 calls alone. */
+    private static HeightFine withYear(String s) {
+        HeightFine x = Check.withBorough(text);
+        check.due("a YEAR", Check.tell(x, 1, NONE, s), 0);
+        return x;
+    }
+
+    private static void state(String s, int[] now, int n) {
+        HeightFine x = withYear(s);
         int many = tall.length;
         String call = "behind " + n + " of " + s + " in " + text;
         check.due("PRESS " + call, x.state(0, 0, n, 0), now[many]);

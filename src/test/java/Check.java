@@ -1,7 +1,3 @@
-import java.io.IOException;
-import java.io.UncheckedIOException;
-import java.nio.file.Files;
-import java.nio.file.Path;
 import java.util.function.IntToLongFunction;
 
 /** What the tests share: telling texts to an object, and comparing answers with those due. */
@@ -18,30 +14,19 @@ final class Check {
     static final String SIGHT = "tall 0 14;tall 3 4;";
 
     private int wrong;
-    private String document = "";
+    private Document document;
     private String sentence = "";
 
     /** By which words of the document the next answers are due: they must stand in that part of it. */
     void sentence(String part, String words) {
-        if (document.isEmpty()) {
-            document = read("../shared/DOC.md");
+        if (document == null) {
+            document = new Document();
         }
-        int start = document.indexOf("\n## " + part);
-        int end = start < 0 ? start : document.indexOf("\n## ", start + 1);
-        String there = start < 0 ? "" : document.substring(start, end < 0 ? document.length() : end);
-        if (!there.contains(words)) {
+        if (document.find(part, words) < 0) {
             wrong++;
             System.out.println("'" + part + "' of the document does not say: " + words);
         }
         sentence = part + ", '" + words + "': ";
-    }
-
-    private static String read(String file) {
-        try {
-            return Files.readString(Path.of(file));
-        } catch (IOException e) {
-            throw new UncheckedIOException(e);
-        }
     }
 
     void due(String call, long got, long want) {

@@ -7,22 +7,12 @@ public final class FaultEdgesTest {
     private static final int YEAR = 1;
     private static final int LEDGER = 2;
     private static final int SIGHT = 3;
-    private static final String NUMBER = "N";
-    private static final String OFFENCE = "O";
-    private static final String[] OFFENCES = {"theft", "lie", "speed", "insult"};
+    private static final String NUMBER = Lines.NUMBER;
+    private static final String OFFENCE = Lines.OFFENCE;
+    private static final String[] OFFENCES = Lines.OFFENCES;
+    private static final String[][][] LINES = Lines.BY_SORT;
     private static final String EIGHT = Check.times(8, "person 9;");
     private static final String SIX = Check.times(6, "door 9;");
-
-    /** Each line that there is, by its sort. */
-    private static final String[][][] LINES = {
-        {{"person", NUMBER}, {"poor", NUMBER}, {"caught", NUMBER}, {"door", NUMBER}, {"work", NUMBER},
-            {"child", NUMBER, NUMBER}, {"pass", NUMBER, NUMBER}, {"costs", OFFENCE, NUMBER},
-            {"wish", NUMBER, OFFENCE, NUMBER}},
-        {{"fine", NUMBER, OFFENCE}, {"bail", NUMBER, OFFENCE}, {"give", NUMBER, NUMBER},
-            {"stretch", NUMBER, NUMBER}, {"gift", NUMBER, NUMBER, NUMBER}},
-        {{"got", NUMBER, NUMBER}, {"owed", NUMBER}},
-        {{"tall", NUMBER, NUMBER}}
-    };
     private static final Check check = new Check();
 
     public static void main(String[] args) {
@@ -59,12 +49,29 @@ public final class FaultEdgesTest {
     }
 
     private static void emptyTexts() {
-        check.sentence("Terms", "A BOROUGH's text: {(('person'");
-        for (int sort = 0; sort < 4; sort++) {
-            check.good(sort, "");
-            check.good(sort, " ");
-            check.good(sort, "\n");
-            check.good(sort, " \n".repeat(300));
+        check.sentence("Terms", "A BOROUGH's text: {(('person' | 'poor' | 'caught' | 'door' | 'work') NUMBER | ('child' | 'pass')"
+                + " NUMBER NUMBER | 'costs' OFFENCE NUMBER | 'wish' NUMBER OFFENCE NUMBER) ';'}");
+        ofNoLinesAndOfSome(BOROUGH);
+        check.sentence("Terms", "A YEAR's text: {(('fine' | 'bail') NUMBER OFFENCE | ('give' | 'stretch') NUMBER NUMBER | 'gift'"
+                + " NUMBER NUMBER NUMBER) ';'}");
+        ofNoLinesAndOfSome(YEAR);
+        check.sentence("Terms", "A LEDGER's text: {('got' NUMBER NUMBER | 'owed' NUMBER) ';'}");
+        ofNoLinesAndOfSome(LEDGER);
+        check.sentence("Terms", "A SIGHT's text: {'tall' NUMBER NUMBER ';'}.");
+        ofNoLinesAndOfSome(SIGHT);
+    }
+
+    private static void ofNoLinesAndOfSome(int sort) {
+        check.good(sort, "");
+        check.good(sort, " ");
+        check.good(sort, "\n");
+        check.good(sort, " \n".repeat(300));
+        StringBuilder all = new StringBuilder("person 9;person 9;door 9;door 9;".repeat(sort == BOROUGH ? 1 : 0));
+        for (String[] line : LINES[sort]) {
+            all.append(narrow(line));
+            check.good(sort, all.toString());
+            check.good(sort, all + " ");
+            check.faulty(sort, all.substring(0, all.length() - 1), 1, all.length() - 1);
         }
     }
 
@@ -313,6 +320,11 @@ public final class FaultEdgesTest {
     }
 
     private static void numbersOfABorough() {
+        check.sentence("Terms", "2 a NUMBER that can't be (as above");
+        check.faulty(BOROUGH, "person 0;", 2, 7);
+        check.good(BOROUGH, "person 1;");
+        check.sentence("Terms", "(person: INCHES");
+        numbers(BOROUGH, "person ", ";", 1, 99, 0, 10);
         check.sentence("Terms", "INCHES, 1 .. 99");
         numbers(BOROUGH, "person ", ";", 1, 99, 0, 10);
         check.sentence("Terms", "poor: a PERSON, 0 .. 7");
@@ -321,12 +333,18 @@ public final class FaultEdgesTest {
         numbers(BOROUGH, "caught ", ";", 0, 10, 0, 2);
         check.sentence("Terms", "DOORS, at most 6, from 0 on: a TOP, 1 .. 99");
         numbers(BOROUGH, "door ", ";", 1, 99, 0, 40);
+        check.sentence("Terms", "door: TOP; work: REACH");
+        numbers(BOROUGH, Check.times(5, "door 9;") + "door ", ";", 1, 99, 0, 45);
+        numbers(BOROUGH, Check.times(5, "work 9;") + "work ", ";", 1, 99, 0, 65);
         check.sentence("Terms", "WORKS, at most 6, from 0 on: a REACH, 1 .. 99.");
         numbers(BOROUGH, "work ", ";", 1, 99, 0, 60);
         check.sentence("Terms", "FINES, 1 .. 9 each");
         for (int o = 0; o < 4; o++) {
             numbers(BOROUGH, "costs " + OFFENCES[o] + " ", ";", 1, 9, 0, 30 + o);
         }
+        check.sentence("Terms", "costs: FINE");
+        check.faulty(BOROUGH, "costs lie 0;", 2, 10);
+        check.faulty(BOROUGH, "costs lie 10;", 2, 10);
         check.sentence("Terms", "WISH of each PERSON for each, 0 .. 99 (0)");
         for (int o = 0; o < 4; o++) {
             numbers(BOROUGH, EIGHT + "wish 0 " + OFFENCES[o] + " ", ";", 0, 99, 0, 70 + o);

@@ -8,19 +8,10 @@ public final class FaultsTest {
     private static final Check check = new Check();
     private static final Random random = new Random(7);
 
-    private static final String NUMBER = "N";
-    private static final String OFFENCE = "O";
-    private static final String[][][] LINES = {
-        {{"person", NUMBER}, {"poor", NUMBER}, {"caught", NUMBER}, {"door", NUMBER}, {"work", NUMBER},
-            {"child", NUMBER, NUMBER}, {"pass", NUMBER, NUMBER}, {"costs", OFFENCE, NUMBER},
-            {"wish", NUMBER, OFFENCE, NUMBER}},
-        {{"fine", NUMBER, OFFENCE}, {"bail", NUMBER, OFFENCE}, {"give", NUMBER, NUMBER},
-            {"stretch", NUMBER, NUMBER}, {"gift", NUMBER, NUMBER, NUMBER}},
-        {{"got", NUMBER, NUMBER}, {"owed", NUMBER}},
-        {{"tall", NUMBER, NUMBER}}
-    };
+    private static final String NUMBER = Lines.NUMBER;
+    private static final String[][][] LINES = Lines.BY_SORT;
     private static final String[] CHILD = LINES[0][5];
-    private static final String[] OFFENCES = {"theft", "lie", "speed", "insult"};
+    private static final String[] OFFENCES = Lines.OFFENCES;
 
     private static int dueFault;
     private static int duePlace;

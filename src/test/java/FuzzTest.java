@@ -9,6 +9,7 @@ public final class FuzzTest {
     private static final Check check = new Check();
     private static final int RUNS = 300;
     private static final int CALLS = 512;
+    private static final int MOST_TO_TELL = 34;
     private static final long MOST_BYTES = 200_000;
 
     private static Random random;
@@ -90,9 +91,9 @@ public final class FuzzTest {
         long sum = 0;
         int calls = 0;
         while (calls < CALLS) {
-            if (random.nextInt(12) == 0) {
+            if (random.nextInt(12) == 0 && calls + MOST_TO_TELL <= CALLS) {
                 String text = TEXTS[random.nextInt(TEXTS.length)];
-                calls += 2 + text.length() / 20;
+                calls += 4 + text.length() / 20;
                 int sort = random.nextInt(4);
                 int at = random.nextInt(4) == 0 ? any() : HeightFine.NONE;
                 if (!idle && x.end(0) == 0) {

@@ -46,7 +46,7 @@ public final class SightEdgesTest {
     }
 
     private static void backJust() {
-        check.sentence("Terms", "BACK: the fewest of those who GOT some who GOT as many as are OWED together, or more (bits; of"
+        check.sentence("Terms", "Of a LEDGER: BACK: the fewest of those who GOT some who GOT as many as are OWED together, or more (bits; of"
                 + " several the least)");
         backIs("owed 9;got 0 9;", 1);
         backIs("owed 9;got 0 8;", NONE);
@@ -207,7 +207,7 @@ public final class SightEdgesTest {
     }
 
     private static void factsInTheEnd() {
-        check.sentence("Terms", "by which all FACTS are so in the end");
+        check.sentence("Terms", "by which all FACTS are so in the end: how many");
         rowsAre("person 20;", "tall 0 20;", 1, 0);
         rowsAre("person 20;", "tall 0 19;", 1, 1);
         rowsAre("person 20;", "tall 0 18;", 1, 1);
@@ -269,7 +269,8 @@ public final class SightEdgesTest {
     }
 
     private static void didOfK() {
-        check.sentence("Promise 18", "k above n or below 0");
+        check.sentence("Promise 18", "ROWS of n DEEDS (person NONE), or DID of a PERSON, k. NONE: one told of is not there, another n, k above n"
+                + " or below 0");
         HeightFine x = withSight("person 20;person 20;", "tall 0 18;");
         for (int person : new int[] {NONE, 0, 1}) {
             for (int n = 0; n <= 8; n++) {
@@ -330,7 +331,8 @@ public final class SightEdgesTest {
     }
 
     private static void noRows() {
-        check.sentence("Promise 19", "NONE: there is none, there are no ROWS, no PEOPLE, as rows(), or there is none such.");
+        check.sentence("Promise 19", "SURE of a PERSON, or (person NONE) ASK. NONE: there is none, there are no ROWS, no PEOPLE, as rows(), or"
+                + " there is none such.");
         HeightFine none = withSight("person 1;person 1;", "");
         for (int person : new int[] {NONE, 0, 1}) {
             check.due("no ROWS", none.sure(0, 0, 1, person), NONE);

@@ -71,6 +71,8 @@ public final class TapeEdgesTest {
     }
 
     private static void aNewObject() {
+        check.sentence("Terms", "The constants: `NONE = -1`: There is none.");
+        check.due("NONE", HeightFine.NONE, -1);
         check.sentence("Promise 1", "No BOROUGHS, YEARS, LEDGERS, SIGHTS; no images.");
         HeightFine x = new HeightFine();
         check.dueToEach("count", x::count, 0, 0, 1, 2, 3);
@@ -88,7 +90,7 @@ public final class TapeEdgesTest {
 
     /** A sign that can't be, alone among blanks, is a FAULT at its own place. */
     private static void twentyBytesComeBehind() {
-        check.sentence("Promise 2", "twenty bytes come behind it, of each number the highest first: how many it has.");
+        check.sentence("Promise 2", "The tape: twenty bytes come behind it, of each number the highest first: how many it has.");
         for (int before : new int[] {0, 1, 20, 579, 580}) {
             for (int k = 0; k < 20; k++) {
                 HeightFine x = withLength(before);

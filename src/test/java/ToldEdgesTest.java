@@ -13,6 +13,7 @@ public final class ToldEdgesTest {
     private static final Check check = new Check();
 
     public static void main(String[] args) {
+        offencesByNumber();
         anEmptyBorough();
         aFullBorough();
         aBoroughInPart();
@@ -51,6 +52,24 @@ public final class ToldEdgesTest {
         check.dueToEach("borough, what", what -> x.borough(borough, what), NO_SUCH, FAR);
     }
 
+    private static void offencesByNumber() {
+        check.sentence("Terms", "OFFENCES are 0 THEFT, 1 LIE, 2 SPEED, 3 INSULT");
+        int[] first = {6, 3, 1, 2};
+        for (int o = 0; o < 4; o++) {
+            String offence = Lines.OFFENCES[o];
+            HeightFine x = Check.withBorough("person 20;costs " + offence + " 9;wish 0 " + offence + " 8;");
+            Check.tell(x, 1, NONE, "fine 0 " + offence + ";bail 0 " + offence + ";");
+            for (int other = 0; other < 4; other++) {
+                check.due("FINE of " + other, x.borough(0, 30 + other), other == o ? 9 : first[other]);
+                check.due("WISH for " + other, x.borough(0, 70 + other), other == o ? 8 : 0);
+                check.due("HARM of " + other, x.dares(0, other, 1, 1), other == o ? 8 : 0);
+            }
+            check.due("the OFFENCE of a fine", x.deed(0, 0, 2), o);
+            check.due("the OFFENCE of a bail", x.deed(0, 1, 2), o);
+            check.due("the PRESS behind the fine", x.state(0, 0, 1, 0), 9);
+        }
+    }
+
     private static void anEmptyBorough() {
         check.sentence("Promise 6", "-2: there is none such (of any), or for another what.");
         int[] due = nothing();
@@ -60,7 +79,8 @@ public final class ToldEdgesTest {
     }
 
     private static void aFullBorough() {
-        check.sentence("Promise 6", "10 + p, 20 + p: INCHES, PARENT (NONE) of a PERSON, 30 + o: FINE of an OFFENCE,"
+        check.sentence("Promise 6", "Of a BOROUGH, what 0: PEOPLE, 1: POOR (bits), 2: CAUGHT, 3: DOORS, 4: WORKS,"
+                + " 10 + p, 20 + p: INCHES, PARENT (NONE) of a PERSON, 30 + o: FINE of an OFFENCE,"
                 + " 40 + d, 50 + d: TOP, who is to PASS (bits) of a DOOR, 60 + w: REACH of a WORK, 70 + 4 * p + o: WISH.");
         StringBuilder text = new StringBuilder();
         int[] due = nothing();
@@ -267,7 +287,7 @@ public final class ToldEdgesTest {
     }
 
     private static void aFullLedger() {
-        check.sentence("Promise 16", "Of a LEDGER, what 0: OWED, 10 + k: GOT of one");
+        check.sentence("Promise 16", "Of a LEDGER, what 0: OWED, 10 + k: GOT of one, 1: BACK");
         StringBuilder text = new StringBuilder("owed 99;");
         for (int k = 0; k < 8; k++) {
             text.append("got ").append(k).append(' ').append(92 + k).append(';');

@@ -7,7 +7,7 @@ public final class YearEdgesTest {
     private static final int NO_SUCH = -2;
     private static final int LEAST = Integer.MIN_VALUE;
     private static final int GREATEST = Integer.MAX_VALUE;
-    private static final String[] OFFENCES = {"theft", "lie", "speed", "insult"};
+    private static final String[] OFFENCES = Lines.OFFENCES;
     private static final String TWO = "person 20;person 20;";
     private static final Check check = new Check();
 
@@ -34,6 +34,7 @@ public final class YearEdgesTest {
         drawnTimes();
         drawnOfWhat();
         drawnByAnySeed();
+        drawnEachKind();
         drawnAlone();
         settled();
         settledByNone();
@@ -74,7 +75,8 @@ public final class YearEdgesTest {
     }
 
     private static void fines() {
-        check.sentence("Terms", "it can't be, if he would be below 1 inch.");
+        check.sentence("Terms", "fine: a PERSON loses the OFFENCE's FINE: it comes to the PRESS; it can't be, if he would be below"
+                + " 1 inch.");
         for (int o = 0; o < 4; o++) {
             for (int f = 1; f <= 9; f++) {
                 String costs = "costs " + OFFENCES[o] + " " + f + ";";
@@ -298,7 +300,8 @@ public final class YearEdgesTest {
     }
 
     private static void statesOfWhat() {
-        check.sentence("Promise 9", "-2: there is no such STATE, or for another what.");
+        check.sentence("Promise 9", "Of a STATE, what 0: PRESS, 1: BOWED (bits), 2: RAISED (bits), 3: UP, 10 + p: inches of a PERSON,"
+                + " 20 + k: the k-th by RANK. -2: there is no such STATE, or for another what.");
         for (int people = 0; people <= 8; people++) {
             HeightFine x = withYear(Check.times(people, "person 20;"), "");
             for (int what = -30; what <= 40; what++) {
@@ -499,13 +502,32 @@ public final class YearEdgesTest {
     }
 
     private static void drawnByAnySeed() {
-        check.sentence("Terms", "x becomes x * 1103515245 + 12345 (of 32 bits), it is x shifted right by 16 without sign,"
+        check.sentence("Terms", "DRAWN by a SEED, x; a number below n is drawn: x becomes x * 1103515245 + 12345 (of 32 bits), it is x shifted right by 16 without sign,"
                 + " remainder by n");
         for (int seed : new int[] {0, 1, -1, LEAST, GREATEST, 65535, 65536, -65536, 20261118, -20261118}) {
             drawnAs(seed, 2, new int[] {50, 40, 30}, new int[] {1, NONE, 1});
             drawnAs(seed, 255, new int[] {99, 98, 97, 96, 99, 99, 99, 99}, new int[] {NONE, 0, 1, 2, 3, 4, 5, 6});
             drawnAs(seed, 21, new int[] {1, 2, 3, 4, 5}, new int[] {1, 2, 3, 4, NONE});
             drawnAs(seed, 0, new int[] {7, 9}, new int[] {NONE, NONE});
+        }
+    }
+
+    /** Seeds enough that each kind is drawn first, of the first and of the last PERSON. */
+    private static void drawnEachKind() {
+        check.sentence("Terms", "a PERSON, a number below PEOPLE, a number below 8: 0 to 3: a fine for that OFFENCE; 4: bail, for an"
+                + " OFFENCE, a number below 4; 5: give, 6: stretch, by 1 more than a number below 5; 7: gift, to a PERSON, a number"
+                + " below PEOPLE, by 1 more than a number below 5; each, if it may");
+        for (int seed = 0; seed < 400; seed++) {
+            int[] first = {60, 50, 40};
+            Drawn due = new Drawn(first, new int[] {2, 0, NONE}, 7, seed * 77777);
+            HeightFine x = Check.withBorough("person 60;person 50;person 40;child 0 2;child 1 0;poor 0;poor 1;poor 2;");
+            for (int n = 1; n <= 12; n++) {
+                due.once();
+                check.due("seed " + seed * 77777 + ", the PRESS behind " + n, x.drawn(0, seed * 77777, n, 0), due.press);
+                for (int p = 0; p < 3; p++) {
+                    check.due("seed " + seed * 77777 + ", inches", x.drawn(0, seed * 77777, n, 10 + p), due.tall[p]);
+                }
+            }
         }
     }
 
@@ -540,7 +562,8 @@ public final class YearEdgesTest {
     }
 
     private static void settledByNone() {
-        check.sentence("Promise 27", "NONE: by none (inches came of nobody), there is no such STATE, or none such (of either).");
+        check.sentence("Promise 27", "SETTLED. NONE: by none (inches came of nobody), there is no such STATE, or none such"
+                + " (of either).");
         settledIs(TWO, "fine 0 lie;stretch 0 1;", 2, NONE);
         settledIs(TWO, "fine 0 lie;stretch 0 3;", 2, NONE);
         settledIs(TWO, "gift 0 1 1;stretch 0 1;", 2, NONE);
