@@ -290,32 +290,34 @@ public final class FaultEdgesTest {
         }
     }
 
-    /** Each NUMBER that there is, told in its place: what it is, or FAULT 2 there. */
-    private static void numbers(int sort, String before, String behind, int least, int greatest, int... ask) {
+    /** Each NUMBER that there is, told in its place: what the object then tells of it, or FAULT 2 there. */
+    private static void numbers(int sort, String before, String behind, int least, int greatest, int what) {
         for (int n = 0; n <= 99; n++) {
-            String text = before + n + behind;
-            if (n < least || n > greatest) {
-                check.faulty(sort, text, 2, before.length());
-            } else {
-                check.good(sort, text);
-                check.due("told by " + text, ask(sort, text, ask), ask[0] < 0 ? 1 << n : n);
-            }
+            numberIs(sort, before, n + behind, n >= least && n <= greatest, what, n);
         }
     }
 
-    /** What the object tells of it; the first of ask is -1 where the answer is bits. */
-    private static int ask(int sort, String text, int... ask) {
+    private static void numberIs(int sort, String before, String rest, boolean can, int what, int due) {
+        if (can) {
+            check.good(sort, before + rest);
+            check.due("told by '" + before + rest + "'", ask(sort, before + rest, what), due);
+        } else {
+            check.faulty(sort, before + rest, 2, before.length());
+        }
+    }
+
+    private static int ask(int sort, String text, int what) {
         HeightFine x = new HeightFine();
         Check.tell(x, sort, HeightFine.NONE, text);
         switch (sort) {
             case BOROUGH:
-                return x.borough(0, ask[1]);
+                return x.borough(0, what);
             case YEAR:
-                return x.deed(0, 0, ask[1]);
+                return x.deed(0, 0, what);
             case LEDGER:
-                return x.ledger(0, ask[1]);
+                return x.ledger(0, what);
             default:
-                return x.fact(0, 0, ask[1]);
+                return x.fact(0, 0, what);
         }
     }
 
@@ -324,104 +326,85 @@ public final class FaultEdgesTest {
         check.faulty(BOROUGH, "person 0;", 2, 7);
         check.good(BOROUGH, "person 1;");
         check.sentence("Terms", "(person: INCHES");
-        numbers(BOROUGH, "person ", ";", 1, 99, 0, 10);
+        numbers(BOROUGH, "person ", ";", 1, 99, 10);
         check.sentence("Terms", "INCHES, 1 .. 99");
-        numbers(BOROUGH, "person ", ";", 1, 99, 0, 10);
+        numbers(BOROUGH, "person ", ";", 1, 99, 10);
         check.sentence("Terms", "poor: a PERSON, 0 .. 7");
-        numbers(BOROUGH, EIGHT + "poor ", ";", 0, 7, -1, 1);
+        for (int n = 0; n <= 99; n++) {
+            numberIs(BOROUGH, EIGHT + "poor ", n + ";", n <= 7, 1, 1 << n);
+        }
         check.sentence("Terms", "CAUGHT, 0 .. 10 of ten (5).");
-        numbers(BOROUGH, "caught ", ";", 0, 10, 0, 2);
+        numbers(BOROUGH, "caught ", ";", 0, 10, 2);
         check.sentence("Terms", "DOORS, at most 6, from 0 on: a TOP, 1 .. 99");
-        numbers(BOROUGH, "door ", ";", 1, 99, 0, 40);
+        numbers(BOROUGH, "door ", ";", 1, 99, 40);
         check.sentence("Terms", "door: TOP; work: REACH");
-        numbers(BOROUGH, Check.times(5, "door 9;") + "door ", ";", 1, 99, 0, 45);
-        numbers(BOROUGH, Check.times(5, "work 9;") + "work ", ";", 1, 99, 0, 65);
+        numbers(BOROUGH, Check.times(5, "door 9;") + "door ", ";", 1, 99, 45);
+        numbers(BOROUGH, Check.times(5, "work 9;") + "work ", ";", 1, 99, 65);
         check.sentence("Terms", "WORKS, at most 6, from 0 on: a REACH, 1 .. 99.");
-        numbers(BOROUGH, "work ", ";", 1, 99, 0, 60);
+        numbers(BOROUGH, "work ", ";", 1, 99, 60);
         check.sentence("Terms", "FINES, 1 .. 9 each");
         for (int o = 0; o < 4; o++) {
-            numbers(BOROUGH, "costs " + OFFENCES[o] + " ", ";", 1, 9, 0, 30 + o);
+            numbers(BOROUGH, "costs " + OFFENCES[o] + " ", ";", 1, 9, 30 + o);
         }
         check.sentence("Terms", "costs: FINE");
         check.faulty(BOROUGH, "costs lie 0;", 2, 10);
         check.faulty(BOROUGH, "costs lie 10;", 2, 10);
         check.sentence("Terms", "WISH of each PERSON for each, 0 .. 99 (0)");
         for (int o = 0; o < 4; o++) {
-            numbers(BOROUGH, EIGHT + "wish 0 " + OFFENCES[o] + " ", ";", 0, 99, 0, 70 + o);
-            numbers(BOROUGH, EIGHT + "wish 7 " + OFFENCES[o] + " ", ";", 0, 99, 0, 98 + o);
+            numbers(BOROUGH, EIGHT + "wish 0 " + OFFENCES[o] + " ", ";", 0, 99, 70 + o);
+            numbers(BOROUGH, EIGHT + "wish 7 " + OFFENCES[o] + " ", ";", 0, 99, 98 + o);
         }
         check.sentence("Terms", "pass: a PERSON, a DOOR, 0 .. 5");
-        numbers(BOROUGH, EIGHT + SIX + "pass ", " 5;", 0, 7, -1, 55);
         for (int n = 0; n <= 99; n++) {
-            String before = EIGHT + SIX + "pass 7 ";
-            if (n <= 5) {
-                check.due("who is to PASS " + n, ask(BOROUGH, before + n + ";", 0, 50 + n), 128);
-            } else {
-                check.faulty(BOROUGH, before + n + ";", 2, before.length());
-            }
+            numberIs(BOROUGH, EIGHT + SIX + "pass ", n + " 5;", n <= 7, 55, 1 << n);
+            numberIs(BOROUGH, EIGHT + SIX + "pass 7 ", n + ";", n <= 5, 50 + n, 128);
         }
         check.sentence("Terms", "wish: a PERSON, how much");
         for (int n = 0; n <= 99; n++) {
-            if (n <= 7) {
-                check.due("the WISH of " + n, ask(BOROUGH, EIGHT + "wish " + n + " lie 9;", 0, 71 + 4 * n), 9);
-            } else {
-                check.faulty(BOROUGH, EIGHT + "wish " + n + " lie 9;", 2, EIGHT.length() + 5);
-            }
+            numberIs(BOROUGH, EIGHT + "wish ", n + " lie 9;", n <= 7, 71 + 4 * n, 9);
         }
         check.sentence("Terms", "child: a PERSON, its PARENT, 0 .. 7 each");
-        numbers(BOROUGH, EIGHT + "child 0 ", ";", 1, 7, 0, 20);
-        numbers(BOROUGH, EIGHT + "child 7 ", ";", 0, 6, 0, 27);
+        numbers(BOROUGH, EIGHT + "child 0 ", ";", 1, 7, 20);
+        numbers(BOROUGH, EIGHT + "child 7 ", ";", 0, 6, 27);
         for (int n = 1; n <= 99; n++) {
-            if (n <= 7) {
-                check.due("the PARENT of " + n, ask(BOROUGH, EIGHT + "child " + n + " 0;", 0, 20 + n), 0);
-            } else {
-                check.faulty(BOROUGH, EIGHT + "child " + n + " 0;", 2, EIGHT.length() + 6);
-            }
+            numberIs(BOROUGH, EIGHT + "child ", n + " 0;", n <= 7, 20 + n, 0);
         }
     }
 
     private static void numbersOfAYear() {
         check.sentence("Terms", "(a PERSON, 0 .. 7; give, stretch: inches, 1 .. 99; gift: from, to, inches)");
         for (String offence : OFFENCES) {
-            numbers(YEAR, "fine ", " " + offence + ";", 0, 7, 0, 1);
-            numbers(YEAR, "bail ", " " + offence + ";", 0, 7, 0, 1);
+            numbers(YEAR, "fine ", " " + offence + ";", 0, 7, 1);
+            numbers(YEAR, "bail ", " " + offence + ";", 0, 7, 1);
         }
-        numbers(YEAR, "give ", " 5;", 0, 7, 0, 1);
-        numbers(YEAR, "give 5 ", ";", 1, 99, 0, 2);
-        numbers(YEAR, "stretch ", " 5;", 0, 7, 0, 1);
-        numbers(YEAR, "stretch 5 ", ";", 1, 99, 0, 2);
-        numbers(YEAR, "gift 7 ", " 5;", 0, 6, 0, 2);
-        numbers(YEAR, "gift 0 ", " 5;", 1, 7, 0, 2);
-        numbers(YEAR, "gift 0 1 ", ";", 1, 99, 0, 3);
+        numbers(YEAR, "give ", " 5;", 0, 7, 1);
+        numbers(YEAR, "give 5 ", ";", 1, 99, 2);
+        numbers(YEAR, "stretch ", " 5;", 0, 7, 1);
+        numbers(YEAR, "stretch 5 ", ";", 1, 99, 2);
+        numbers(YEAR, "gift 7 ", " 5;", 0, 6, 2);
+        numbers(YEAR, "gift 0 ", " 5;", 1, 7, 2);
+        numbers(YEAR, "gift 0 1 ", ";", 1, 99, 3);
         for (int n = 1; n <= 99; n++) {
-            if (n <= 7) {
-                check.due("the gift of " + n, ask(YEAR, "gift " + n + " 0 5;", 0, 1), n);
-            } else {
-                check.faulty(YEAR, "gift " + n + " 0 5;", 2, 5);
-            }
+            numberIs(YEAR, "gift ", n + " 0 5;", n <= 7, 1, n);
         }
     }
 
     private static void numbersOfALedger() {
         check.sentence("Terms", "A LEDGER has GOT of each of 8, 0 .. 99 each (0 at first), OWED, 0 .. 99 (0).");
-        numbers(LEDGER, "owed ", ";", 0, 99, 0, 0);
+        numbers(LEDGER, "owed ", ";", 0, 99, 0);
         for (int k = 0; k < 8; k++) {
-            numbers(LEDGER, "got " + k + " ", ";", 0, 99, 0, 10 + k);
+            numbers(LEDGER, "got " + k + " ", ";", 0, 99, 10 + k);
         }
         check.sentence("Terms", "got: one of 8, 0 .. 7, inches");
         for (int n = 0; n <= 99; n++) {
-            if (n <= 7) {
-                check.due("GOT of " + n, ask(LEDGER, "got " + n + " 5;", 0, 10 + n), 5);
-            } else {
-                check.faulty(LEDGER, "got " + n + " 5;", 2, 4);
-            }
+            numberIs(LEDGER, "got ", n + " 5;", n <= 7, 10 + n, 5);
         }
     }
 
     private static void numbersOfASight() {
         check.sentence("Terms", "a PERSON, 0 .. 7, was so many inches in the end, 1 .. 99.");
-        numbers(SIGHT, "tall ", " 5;", 0, 7, 0, 0);
-        numbers(SIGHT, "tall 5 ", ";", 1, 99, 0, 1);
+        numbers(SIGHT, "tall ", " 5;", 0, 7, 0);
+        numbers(SIGHT, "tall 5 ", ";", 1, 99, 1);
     }
 
     private static void theSecondPersonIsTheFirst() {

@@ -38,6 +38,7 @@ public final class TapeEdgesTest {
         anImageIsAllThatIsTold();
         anImageStaysAsItIs();
         againWithoutImage();
+        askingChangesNothing();
         check.finish();
     }
 
@@ -500,5 +501,56 @@ public final class TapeEdgesTest {
         check.dueToEach("count", x::count, 1, 0, 1, 2, 3);
         check.due("its FAULT", x.fault(0), 1);
         lengthIs("its tape", x, 20);
+    }
+
+    private static void ask(HeightFine x, int a, int b, int c) {
+        x.fault(a);
+        x.borough(a, b);
+        x.deed(a, b, c);
+        x.stop(a, b);
+        x.state(a, b, c, a);
+        x.reached(a, b, c);
+        x.cut(a, b, c);
+        x.love(a, b, c > 0);
+        x.dares(a, b, c, a);
+        x.share(a, b, c, a);
+        x.elder(a, b, c);
+        x.ledger(a, b);
+        x.fact(a, b, c);
+        x.rows(a, b, c, a, b);
+        x.sure(a, b, c, a);
+        x.drawn(a, b, c, a);
+        x.family(a, b, c);
+        x.views(a, b);
+        x.shoulders(a, b);
+        x.hats(a, c > 0);
+        x.teams(a, c > 0);
+        x.assumed(a, b, c);
+        x.settled(a, b, c);
+        x.count(a);
+    }
+
+    /** Whether it is answered or refused: what is told, the tape and the FAULT stay. */
+    private static void askingChangesNothing() {
+        check.sentence("Not promised", "Nothing is promised beyond the answers and state changes described above");
+        HeightFine x = new HeightFine();
+        tellAll(x, 5);
+        tellAll(x, 8);
+        Check.tell(x, LEDGER, 0, "owed 5;#");
+        Check.feed(x, "owed 9;");
+        int[][] asked = {{0, 0, 0}, {0, 1, 1}, {1, 1, 1}, {1, 0, 2}, {0, 10, 1}, {1, 20, 3}, {-1, -1, -1}, {2, 2, 2},
+            {LEAST, LEAST, LEAST}, {GREATEST, GREATEST, GREATEST}};
+        for (int[] one : asked) {
+            ask(x, one[0], one[1], one[2]);
+        }
+        allIsTold("the first", x, 0, 5);
+        allIsTold("the second", x, 1, 8);
+        check.due("the FAULT", x.fault(0), 1);
+        check.due("its place", x.fault(1), 7);
+        check.dueToEach("count", x::count, 2, 0, 1, 2, 3);
+        check.due("no image", x.again(0), false);
+        lengthIs("the tape", x, 7);
+        check.due("its text", x.text(LEDGER, 1), 1);
+        check.due("OWED by it", x.ledger(1, 0), 9);
     }
 }
