@@ -22,6 +22,8 @@ public final class LanguageTest {
             + "image(int) ledger(int,int) love(int,int,boolean) reached(int,int,int) rows(int,int,int,int,int) "
             + "settled(int,int,int) share(int,int,int,int) shoulders(int,int) state(int,int,int,int) stop(int,int) "
             + "sure(int,int,int,int) teams(int,boolean) text(int,int) views(int,int)";
+    private static final Set<String> LIBRARY = Set.of("Arrays.fill", "Integer.bitCount", "Math.abs", "Math.max",
+            "Math.min", "System.arraycopy");
 
     public static void main(String[] args) throws IOException {
         face();
@@ -93,6 +95,10 @@ public final class LanguageTest {
         Matcher imports = Pattern.compile("import ([^;]*);").matcher(code);
         while (imports.find()) {
             check.due("import " + imports.group(1), imports.group(1).equals("java.util.Arrays"), true);
+        }
+        Matcher library = Pattern.compile("\\b(?!HeightFine\\b)[A-Z][a-z]+[A-Za-z]*\\.[A-Za-z]+").matcher(code);
+        while (library.find()) {
+            check.due("the library has " + library.group() + " for the program", LIBRARY.contains(library.group()), true);
         }
         int longest = 0;
         int start = 0;
